@@ -32,6 +32,14 @@ public final class ForgivenWork {
     private static final int REGRET = 5;
     private static final int WRITE = 6;
 
+    // The numbers of a worker; those of all workers added up are numbers of the whole.
+    private static final int ITS_WORKS = 0;
+    private static final int ITS_ENTRIES = 1;
+    private static final int ITS_LOCKS = 2;
+    private static final int ITS_OVER_WELL = 3;
+    private static final int ITS_OVER_BADLY = 4;
+    private static final int ITS_SPOILED = 5;
+
     private static final int NO_WORK = 1;
     private static final int IS_SPOILED = 2;
     private static final int LOCKED_BY_OTHER = 3;
@@ -111,17 +119,18 @@ public final class ForgivenWork {
             case 0:
                 return state.sumOfValues();
             case 1:
-                return state.countLocked();
+                return state.sumOfWorkers(ITS_LOCKS);
             case 2:
-                return state.countWorks();
+                return state.sumOfWorkers(ITS_WORKS);
             case 3:
-                return state.countOverWell();
+                return state.sumOfWorkers(ITS_OVER_WELL);
             case 4:
-                return state.countOverBadly();
+                return state.sumOfWorkers(ITS_OVER_BADLY);
             case 5:
                 return state.forgiven;
             case 6:
-                return state.countSpoiled();
+                // Only an innermost work can be spoiled: nothing begins within a spoiled one.
+                return state.sumOfWorkers(ITS_SPOILED);
             case 7:
                 return state.mercy;
             case 8:
@@ -149,22 +158,10 @@ public final class ForgivenWork {
 
     public int worker(int w, int what) throws IndexOutOfBoundsException, IllegalArgumentException {
         Worker who = existingWorker(w);
-        switch (what) {
-            case 0:
-                return who.depth;
-            case 1:
-                return who.log.size;
-            case 2:
-                return state.countLockedBy(w);
-            case 3:
-                return who.overWell;
-            case 4:
-                return who.overBadly;
-            case 5:
-                return who.isSpoiled() ? 1 : 0;
-            default:
-                throw new IllegalArgumentException("no such number of a worker");
+        if (what < ITS_WORKS || what > ITS_SPOILED) {
+            throw new IllegalArgumentException("no such number of a worker");
         }
+        return state.numberOfWorker(who, what);
     }
 
     public int work(int w, int i, int what) throws IndexOutOfBoundsException, IllegalArgumentException {
@@ -420,7 +417,7 @@ public final class ForgivenWork {
     }
 
     /**
-     * What follows the letter of a command, a sign for each character: w a worker, i a point or a mercy,
+     * What follows the letter of a command, a sign for each character: w a worker, i a point, m a mercy,
      * C and c the digits of a cell, D and d those of a value, D and n those of a regret's number.
      */
     private static String shapeOf(int letter) {
@@ -437,7 +434,7 @@ public final class ForgivenWork {
             case 'r':
                 return "wi";
             case 'm':
-                return "i";
+                return "m";
             default:
                 return "";
         }
@@ -462,9 +459,11 @@ public final class ForgivenWork {
             case 'w':
                 return digit < WORKERS;
             case 'i':
-                return digit <= 3;
+                return digit < MOST_POINTS;
+            case 'm':
+                return digit <= MOST_MERCY;
             case 'C':
-                return digit <= 1;
+                return isCell(10 * digit);
             case 'c':
                 return isCell(numberAt(position - 1));
             case 'n':
@@ -484,25 +483,25 @@ public final class ForgivenWork {
 
     /** The command at this position of a story; false if it would throw an exception. */
     private boolean obeyText(int position) {
-        int w = digitAt(position + 1);
-        int arguments = position + 2;
+        int first = digitAt(position + 1);
+        int rest = position + 2;
         switch (text.get(position)) {
             case 'b':
-                return state.attempt(BEGIN, w, 0, 0);
+                return state.attempt(BEGIN, first, 0, 0);
             case 's':
-                return state.attempt(WRITE, w, numberAt(arguments), numberAt(arguments + 2));
+                return state.attempt(WRITE, first, numberAt(rest), numberAt(rest + 2));
             case 'p':
-                return state.attempt(POINT, w, 0, 0);
+                return state.attempt(POINT, first, 0, 0);
             case 'r':
-                return state.attempt(BACK, w, digitAt(arguments), 0);
+                return state.attempt(BACK, first, digitAt(rest), 0);
             case 'g':
-                return state.attempt(REGRET, w, numberAt(arguments), numberAt(arguments + 2));
+                return state.attempt(REGRET, first, numberAt(rest), numberAt(rest + 2));
             case 'd':
-                return state.attempt(DONE, w, 0, 0);
+                return state.attempt(DONE, first, 0, 0);
             case 'f':
-                return state.attempt(FAIL, w, 0, 0);
+                return state.attempt(FAIL, first, 0, 0);
             default:
-                state.mercy = w;
+                state.mercy = first;
                 return true;
         }
     }
@@ -726,17 +725,6 @@ public final class ForgivenWork {
             return depth > 0 && !isSpoiled();
         }
 
-        int countSpoiled() {
-            int count = 0;
-            for (int i = 0; i < depth; i++) {
-                Work one = workAt(i);
-                if (one != null && one.spoiled) {
-                    count++;
-                }
-            }
-            return count;
-        }
-
         int countPoints(int i) {
             Work one = workAt(i);
             Work within = workAt(i + 1);
@@ -855,10 +843,6 @@ public final class ForgivenWork {
             return sum;
         }
 
-        int countLocked() {
-            return CELLS - countLockedBy(NONE);
-        }
-
         int countLockedBy(int w) {
             int count = 0;
             for (int c = 0; c < CELLS; c++) {
@@ -869,40 +853,34 @@ public final class ForgivenWork {
             return count;
         }
 
-        int countWorks() {
-            int count = 0;
-            for (int w = 0; w < WORKERS; w++) {
-                Worker who = workerAt(w);
-                count += who == null ? 0 : who.depth;
+        int numberOfWorker(Worker who, int what) {
+            switch (what) {
+                case ITS_WORKS:
+                    return who.depth;
+                case ITS_ENTRIES:
+                    return who.log.size;
+                case ITS_LOCKS:
+                    return countLockedBy(who.number);
+                case ITS_OVER_WELL:
+                    return who.overWell;
+                case ITS_OVER_BADLY:
+                    return who.overBadly;
+                case ITS_SPOILED:
+                    return who.isSpoiled() ? 1 : 0;
+                default:
+                    return NONE;
             }
-            return count;
         }
 
-        int countOverWell() {
-            int count = 0;
+        int sumOfWorkers(int what) {
+            int sum = 0;
             for (int w = 0; w < WORKERS; w++) {
                 Worker who = workerAt(w);
-                count += who == null ? 0 : who.overWell;
+                if (who != null) {
+                    sum += numberOfWorker(who, what);
+                }
             }
-            return count;
-        }
-
-        int countOverBadly() {
-            int count = 0;
-            for (int w = 0; w < WORKERS; w++) {
-                Worker who = workerAt(w);
-                count += who == null ? 0 : who.overBadly;
-            }
-            return count;
-        }
-
-        int countSpoiled() {
-            int count = 0;
-            for (int w = 0; w < WORKERS; w++) {
-                Worker who = workerAt(w);
-                count += who == null ? 0 : who.countSpoiled();
-            }
-            return count;
+            return sum;
         }
 
         int countDifferent(State other) {
@@ -916,10 +894,12 @@ public final class ForgivenWork {
         }
 
         int oldestValue(int c) {
-            Worker who = workerAt(locks.get(c));
-            int entries = who == null ? 0 : who.log.size;
-            for (int k = 0; k < entries; k++) {
-                int logged = who == null ? 0 : who.log.get(k);
+            Worker owner = workerAt(locks.get(c));
+            if (owner == null) {
+                return values.get(c);
+            }
+            for (int k = 0; k < owner.log.size; k++) {
+                int logged = owner.log.get(k);
                 if (logged / VALUES == c) {
                     return logged % VALUES;
                 }
