@@ -679,16 +679,12 @@ public final class ForgivenWork {
         }
 
         void clear() {
-            dropAll();
-            overWell = 0;
-            overBadly = 0;
-        }
-
-        void dropAll() {
             depth = 0;
             log.cutTo(0);
             regrets.cutTo(0);
             cutPoints(0);
+            overWell = 0;
+            overBadly = 0;
         }
 
         void copyFrom(Worker other) {
@@ -713,7 +709,7 @@ public final class ForgivenWork {
         }
 
         Work innermost() {
-            return workAt(depth - 1);
+            return depth > 0 && depth <= works.length ? works[depth - 1] : null;
         }
 
         boolean isSpoiled() {
@@ -1064,8 +1060,10 @@ public final class ForgivenWork {
             return 2;
         }
 
+        /** The outermost work has been left: its points are gone with it, and now all the rest. */
         void endAll(Worker who) {
-            who.dropAll();
+            who.log.cutTo(0);
+            who.regrets.cutTo(0);
             for (int c = 0; c < CELLS; c++) {
                 if (locks.get(c) == who.number) {
                     locks.set(c, NONE);
