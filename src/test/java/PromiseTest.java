@@ -241,9 +241,41 @@ public final class PromiseTest {
         due("load() with commands left out", 10, x::load);
         due("about(7)", 2, () -> x.about(7));
         due("cell(1, 0)", 1, () -> x.cell(1, 0));
+        x.setMercy(0);
+        x.done(0);
+        x.begin(2);
+        x.regret(2, 15, 5);
+        x.fail(2);
+        x.begin(2);
+        x.point(2);
+        x.begin(2);
+        x.fail(2);
         type(x, "W");
         due("load() of W", 0, x::load);
         same("load() of W", seen(new ForgivenWork()), seen(x));
+        dueThrow("undo() of what was before load()", STATE, x::undo);
+        x.begin(2);
+        due("points behind load()", 0, () -> x.work(2, 0, 1));
+        due("point(2) behind load()", 0, () -> x.point(2));
+        loadingOverFullWorks();
+    }
+
+    private static void loadingOverFullWorks() {
+        ForgivenWork x = new ForgivenWork();
+        type(x, "W");
+        for (int times = 0; times < 3; times++) {
+            for (int k = 0; k < 20; k++) {
+                if (k % 4 == 0) {
+                    x.begin(0);
+                }
+                x.write(0, k % 16, k);
+                int number = k % 4;
+                due("point(0)", number, () -> x.point(0));
+            }
+            due("lost(0, 2)", 1, () -> x.lost(0, 2));
+            due("back(0, 0) of the fifth work", 3, () -> x.back(0, 0));
+            due("load()", 0, x::load);
+        }
     }
 
     private static void numbersOfAll() {
@@ -433,6 +465,9 @@ public final class PromiseTest {
         due("forgiven stays", 1, () -> x.work(0, 0, 3));
         due("back(0, 0) again", 0, () -> x.back(0, 0));
         due("point(0)", 1, () -> x.point(0));
+        x.regret(0, 6, 1);
+        due("back(0, 1) to a point set anew", 0, () -> x.back(0, 1));
+        due("regrets", 1, () -> x.work(0, 0, 2));
         x.setMercy(0);
         x.begin(0);
         dueThrow("back to a point of an outer work", INDEX, () -> x.back(0, 0));
@@ -622,6 +657,20 @@ public final class PromiseTest {
         same("undo()", two, seen(y));
         due("undo() of fail", 0, y::undo);
         same("undo()", one, seen(y));
+        y.fail(0);
+        y.regret(0, 9, 1);
+        y.undo();
+        due("back(0, 0) of a state taken back", 2, () -> y.back(0, 0));
+        due("its regrets", 0, () -> y.work(0, 0, 2));
+        due("undo() of back", 1, y::undo);
+        due("undo() of fail", 0, y::undo);
+        y.done(0);
+        y.done(0);
+        due("undo() of done", 1, y::undo);
+        due("worker(0, 3)", 0, () -> y.worker(0, 3));
+        due("undo() of the inner done", 0, y::undo);
+        same("undo() of both", one, seen(y));
+        undoingPoints();
         type(y, "Wb1");
         y.begin(1);
         due("undo() leaves the text", 0, y::undo);
@@ -629,6 +678,28 @@ public final class PromiseTest {
         y.begin(1);
         dueThrow("done(2)", STATE, () -> y.done(2));
         due("a call that throws is no action", 0, y::undo);
+    }
+
+    private static void undoingPoints() {
+        ForgivenWork x = loaded("Wb0g00201p0");
+        x.done(0);
+        x.begin(0);
+        x.point(0);
+        x.undo();
+        x.undo();
+        x.undo();
+        x.regret(0, 2, 2);
+        due("back(0, 0)", 0, () -> x.back(0, 0));
+        due("regrets at a point taken back", 1, () -> x.work(0, 0, 2));
+        ForgivenWork y = loaded("Wb0b0");
+        y.done(0);
+        y.point(0);
+        y.begin(0);
+        y.undo();
+        y.undo();
+        y.undo();
+        due("points of a work taken back", 0, () -> y.work(0, 1, 1));
+        due("its first point", 0, () -> y.point(0));
     }
 
     private static void reasons() {
@@ -793,12 +864,16 @@ public final class PromiseTest {
         int most = 0;
         for (long seed = -20; seed < 20; seed++) {
             for (int m = 1; m <= 99; m += 14) {
-                most = Math.max(most, simulatedByHand(seed, m));
+                most = Math.max(most, simulatedByHand(seed, m, 0));
             }
         }
         for (long seed : new long[] {Long.MIN_VALUE, Long.MAX_VALUE, 0, -1}) {
-            simulatedByHand(seed, 99);
+            simulatedByHand(seed, 99, 0);
             due("simulate(" + seed + ", 50) twice", x.simulate(seed, 50), () -> x.simulate(seed, 50));
+        }
+        // With logs that are nearly full, points and what goes back to them make room for more writes.
+        for (long seed : new long[] {121, 260, 279, 385, 419}) {
+            simulatedByHand(seed, 99, 38);
         }
         if (most < 1000) {
             wrong++;
@@ -812,8 +887,9 @@ public final class PromiseTest {
     }
 
     /** The steps of a simulation as calls on an object of their own: its answer is what they have to come to. */
-    private static int simulatedByHand(long seed, int m) {
-        ForgivenWork steps = new ForgivenWork();
+    private static int simulatedByHand(long seed, int m, int writes) {
+        ForgivenWork whole = withLogs(writes);
+        ForgivenWork steps = withLogs(writes);
         long x = seed;
         for (int step = 0; step < m; step++) {
             x = x * 6364136223846793005L + 1442695040888963407L;
@@ -840,9 +916,21 @@ public final class PromiseTest {
                 // it is left out
             }
         }
-        int want = 1000 * steps.about(5) + steps.about(8);
-        due("simulate(" + seed + ", " + m + ")", want, () -> new ForgivenWork().simulate(seed, m));
+        int want = 1000 * (steps.about(5) - whole.about(5)) + steps.about(8) - whole.about(8);
+        due("simulate(" + seed + ", " + m + ") behind " + writes + " writes", want, () -> whole.simulate(seed, m));
         return want;
+    }
+
+    /** An object in which each worker has written so often, in one work. */
+    private static ForgivenWork withLogs(int writes) {
+        ForgivenWork x = new ForgivenWork();
+        for (int w = 0; w < 3 && writes > 0; w++) {
+            x.begin(w);
+            for (int k = 0; k < writes; k++) {
+                x.write(w, 3 * (k % 5) + w, k);
+            }
+        }
+        return x;
     }
 
     private static void saving() {
