@@ -258,6 +258,21 @@ public final class PromiseTest {
         due("points behind load()", 0, () -> x.work(2, 0, 1));
         due("point(2) behind load()", 0, () -> x.point(2));
         loadingOverFullWorks();
+        loadingManyTimes();
+    }
+
+    /** Nothing of a story may be left behind when it is loaded again, as often as 512 calls allow. */
+    private static void loadingManyTimes() {
+        ForgivenWork x = new ForgivenWork();
+        String six = "g00101g00202g00303g00404g00505g00606";
+        type(x, "Wb0" + six + "b0" + six + "b0" + six);
+        due("load()", 0, x::load);
+        String once = seen(x);
+        for (int k = 0; k < 380; k++) {
+            x.load();
+        }
+        same("load() for the 380th time", once, seen(x));
+        due("failed(0, 6, 3)", 6, () -> x.failed(0, 6, 3));
     }
 
     private static void loadingOverFullWorks() {
